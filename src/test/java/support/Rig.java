@@ -1,0 +1,146 @@
+/** A machine with short ways to tell it instructions, and a picture of all that its face shows. */
+public final class Rig {
+    public static final int NOTHING = 0;
+    public static final int REGISTER = 1;
+    public static final int MEMORY = 2;
+    public static final int NUMBER = 3;
+
+    public static final int C = 1;
+    public static final int P = 4;
+    public static final int Z = 64;
+    public static final int S = 128;
+    public static final int O = 2048;
+
+    public static final long IMAGE = 0x400000L;
+    public static final long STACK_END = 0x7ffff000L;
+    public static final long STACK = STACK_END - 65536;
+
+    public final FlagMachine m = new FlagMachine();
+
+    public Rig tell(int op, int size) {
+        m.op(op, size, 0);
+        return this;
+    }
+
+    public Rig when(int op, int size, int condition) {
+        m.op(op, size, condition);
+        return this;
+    }
+
+    public Rig reg(int k, int register) {
+        Due.yes("operand " + k + " register " + register, m.operand(k, REGISTER, register));
+        return this;
+    }
+
+    public Rig mem(int k) {
+        Due.yes("operand " + k + " memory", m.operand(k, MEMORY, 0));
+        return this;
+    }
+
+    public Rig at(int k, long address) {
+        m.memory(-1, -1, 1, (int) address);
+        return mem(k);
+    }
+
+    public Rig num(int k, long v) {
+        Due.yes("operand " + k + " number", m.operand(k, NUMBER, 0));
+        m.number(v);
+        return this;
+    }
+
+    public Rig put(int register, long v) {
+        Due.yes("set " + register, m.set(register, v));
+        return this;
+    }
+
+    public void poke(long address, int size, long v) {
+        for (int i = 0; i < size; i++) {
+            Due.yes("poke " + (address + i), m.poke(address + i, (int) (v >>> (8 * i))));
+        }
+    }
+
+    public long word(long address, int size) {
+        long v = 0;
+        for (int i = size - 1; i >= 0; i--) {
+            v = v << 8 | m.peek(address + i);
+        }
+        return v;
+    }
+
+    public void step(String what, int want) {
+        Due.equal(what + ": step", m.step(3), want);
+    }
+
+    public void register(String what, int k, long want) {
+        Due.equal(what + ": register " + k, m.register(k), want);
+    }
+
+    public void flags(String what, long want) {
+        Due.equal(what + ": flags", m.register(17), 2 | want);
+    }
+
+    /** Flags become these, by ops whose effect on them is plain. */
+    public void makeFlags(long flags) {
+        long rax = m.register(0);
+        long rcx = m.register(1);
+        long ip = m.register(16);
+        // 1 shifted in a byte never gives P with S freely, so the flags are made by the op that takes them apart.
+        for (int a = 0; a < 256; a++) {
+            for (int b = 0; b < 256; b += 5) {
+                if (tryFlags(flags, a, b)) {
+                    m.set(0, rax);
+                    m.set(1, rcx);
+                    m.set(16, ip);
+                    return;
+                }
+            }
+        }
+        Due.yes("flags " + flags + " can be made", false);
+    }
+
+    private boolean tryFlags(long flags, int a, int b) {
+        m.set(0, a);
+        m.set(1, b);
+        m.op(0, 1, 0);
+        m.operand(0, REGISTER, 0);
+        m.operand(1, REGISTER, 1);
+        m.step(1);
+        return m.register(17) == (2 | flags);
+    }
+
+    /** All that the face shows but the value of the latest stop, one number for each part. */
+    public long[] picture() {
+        long[] all = new long[24];
+        for (int k = 0; k < 20; k++) {
+            all[k] = m.register(k);
+        }
+        all[20] = m.output(-1);
+        all[21] = sumOf(IMAGE, IMAGE + 20480);
+        all[22] = sumOf(STACK_END - 512, STACK_END + 8);
+        all[23] = sumOf(STACK - 8, STACK + 64);
+        return all;
+    }
+
+    private long sumOf(long from, long to) {
+        long sum = 0;
+        for (long a = from; a < to; a++) {
+            sum = sum * 31 + m.peek(a);
+        }
+        return sum;
+    }
+
+    public void same(String what, long[] before) {
+        long[] now = picture();
+        for (int i = 0; i < now.length; i++) {
+            Due.equal(what + ": part " + i + " as before", now[i], before[i]);
+        }
+    }
+
+    /** A step that must stop with 2, 3 or 5, or be refused, and leave all as it was. */
+    public void stops(String what, int stop, long value) {
+        long[] before = picture();
+        Due.equal(what + ": step", m.step(3), stop);
+        Due.equal(what + ": value", m.value(), value);
+        same(what, before);
+    }
+}
