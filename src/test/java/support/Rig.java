@@ -79,33 +79,20 @@ public final class Rig {
         Due.equal(what + ": flags", m.register(17), 2 | want);
     }
 
-    /** Flags become these, by ops whose effect on them is plain. */
-    public void makeFlags(long flags) {
-        long rax = m.register(0);
-        long rcx = m.register(1);
+    /** Flags become those of a sum of two bytes, all else but steps stays; answers them. */
+    public long flagsOfSum(int a, int b) {
+        long r14 = m.register(14);
+        long r15 = m.register(15);
         long ip = m.register(16);
-        // 1 shifted in a byte never gives P with S freely, so the flags are made by the op that takes them apart.
-        for (int a = 0; a < 256; a++) {
-            for (int b = 0; b < 256; b += 5) {
-                if (tryFlags(flags, a, b)) {
-                    m.set(0, rax);
-                    m.set(1, rcx);
-                    m.set(16, ip);
-                    return;
-                }
-            }
-        }
-        Due.yes("flags " + flags + " can be made", false);
+        put(14, a).put(15, b).tell(0, 1).reg(0, 14).reg(1, 15).step("flags", 0);
+        put(14, r14).put(15, r15).put(16, ip);
+        return m.register(17);
     }
 
-    private boolean tryFlags(long flags, int a, int b) {
-        m.set(0, a);
-        m.set(1, b);
-        m.op(0, 1, 0);
-        m.operand(0, REGISTER, 0);
-        m.operand(1, REGISTER, 1);
-        m.step(1);
-        return m.register(17) == (2 | flags);
+    /** Different sets of flags, one for each of 0 .. 4: none, most of them, S with O, C with P, S alone. */
+    public long someFlags(int which) {
+        int[][] sums = {{0, 1}, {0x80, 0x80}, {0x7f, 4}, {0xff, 4}, {0x80, 3}};
+        return flagsOfSum(sums[which][0], sums[which][1]);
     }
 
     /** All that the face shows but the value of the latest stop, one number for each part. */
