@@ -34,6 +34,8 @@ public final class FlagMachine {
     private static final long IMAGE_START = 0x400000L;
     private static final long STACK_END = 0x7ffff000L;
     private static final int PAGE_BYTES = 256;
+    private static final int READING = 0;
+    private static final int WRITING = 1;
 
     private final Instruction hand;
     private final Stretch filled;
@@ -195,12 +197,12 @@ public final class FlagMachine {
     }
 
     public int peek(long address) {
-        int place = core.memory.readablePlace(address, 1);
+        int place = core.memory.placeFor(address, 1, READING);
         return place == NONE ? NONE : core.memory.cells.byteAt(place);
     }
 
     public boolean poke(long address, int v) {
-        int place = core.memory.writablePlace(address, 1);
+        int place = core.memory.placeFor(address, 1, WRITING);
         if (place == NONE) {
             return false;
         }
@@ -376,23 +378,29 @@ public final class FlagMachine {
         private static final int ALL_BYTES = STACK_PLACE + STACK_BYTES;
         private static final long STACK_START = STACK_END - STACK_BYTES;
 
+        private static final int TEXT = 0;
+        private static final int RODATA = 1;
+        private static final int DATA = 2;
+        private static final int HEAP = 3;
+        private static final int STACK = 4;
+        private static final int ROWS = 5;
+
         final Stretch cells = new Stretch(ALL_BYTES);
-        private int text;
-        private int rodata;
-        private int rodataEnd;
-        private int data;
-        private int dataEnd;
-        private int heap;
-        private int heapEnd;
+        private final int[] starts = new int[ROWS];
+        private final int[] ends = new int[ROWS];
 
         void layRows(int image, int text, int rodata, int rodataEnd, int data, int dataEnd) {
-            this.text = text;
-            this.rodata = rodata;
-            this.rodataEnd = rodataEnd;
-            this.data = data;
-            this.dataEnd = dataEnd;
-            heap = (image + 4095) / 4096 * 4096;
-            heapEnd = heap;
+            int heap = (image + 4095) / 4096 * 4096;
+            layRow(TEXT, 0, text);
+            layRow(RODATA, rodata, rodataEnd);
+            layRow(DATA, data, dataEnd);
+            layRow(HEAP, heap, heap);
+            layRow(STACK, STACK_PLACE, ALL_BYTES);
+        }
+
+        private void layRow(int row, int start, int end) {
+            starts[row] = start;
+            ends[row] = end;
         }
 
         void loadImage(Stretch filled, int image) {
@@ -400,36 +408,28 @@ public final class FlagMachine {
         }
 
         long breakAddress() {
-            return IMAGE_START + heapEnd;
+            return IMAGE_START + ends[HEAP];
         }
 
         void moveBreak(long address) {
-            long from = IMAGE_START + heap;
+            long from = IMAGE_START + starts[HEAP];
             if (address < from || address > from + MAX_HEAP) {
                 return;
             }
             int end = (int) (address - IMAGE_START);
-            cells.clearFrom(end, heapEnd - end);
-            heapEnd = end;
+            cells.clearFrom(end, ends[HEAP] - end);
+            ends[HEAP] = end;
         }
 
-        /** Where n bytes at an address lie, or NONE if one of them may not be read. */
-        int readablePlace(long address, int n) {
+        /** Where n bytes at an address lie, or NONE if one of them may not be used so. */
+        int placeFor(long address, int n, int use) {
             int place = placeOf(address);
             int reached = place;
-            // Rows may touch one another, so an operand may lie in several of the five.
-            for (int row = 0; row < 5 && reached - place < n; row++) {
-                reached = readableEnd(reached);
-            }
-            return reached - place < n ? NONE : place;
-        }
-
-        /** Where n bytes at an address lie, or NONE if one of them may not be written. */
-        int writablePlace(long address, int n) {
-            int place = placeOf(address);
-            int reached = place;
-            for (int row = 0; row < 3 && reached - place < n; row++) {
-                reached = writableEnd(reached);
+            // Rows rise and may touch one another: the bytes may go from one on into the next.
+            for (int row = use == WRITING ? DATA : TEXT; row < ROWS; row++) {
+                if (reached >= starts[row] && reached < ends[row]) {
+                    reached = ends[row];
+                }
             }
             return reached - place < n ? NONE : place;
         }
@@ -442,28 +442,6 @@ public final class FlagMachine {
                 return STACK_PLACE + (int) (address - STACK_START);
             }
             return NONE;
-        }
-
-        /** Where the row that a place lies in ends; the place itself if it may not be read. */
-        private int readableEnd(int place) {
-            if (place >= 0 && place < text) {
-                return text;
-            }
-            if (place >= rodata && place < rodataEnd) {
-                return rodataEnd;
-            }
-            return writableEnd(place);
-        }
-
-        /** Where the row that a place lies in ends; the place itself if it may not be written. */
-        private int writableEnd(int place) {
-            if (place >= data && place < dataEnd) {
-                return dataEnd;
-            }
-            if (place >= heap && place < heapEnd) {
-                return heapEnd;
-            }
-            return place >= STACK_PLACE && place < ALL_BYTES ? ALL_BYTES : place;
         }
     }
 
@@ -731,7 +709,7 @@ public final class FlagMachine {
         }
 
         long load(long from, int size) {
-            int place = memory.readablePlace(from, size);
+            int place = memory.placeFor(from, size, READING);
             if (place == NONE) {
                 stopWith(STOP_RIGHTS, from);
                 return 0;
@@ -749,7 +727,7 @@ public final class FlagMachine {
         }
 
         boolean save(long to, int size, long v) {
-            int place = memory.writablePlace(to, size);
+            int place = memory.placeFor(to, size, WRITING);
             if (place == NONE) {
                 stopWith(STOP_RIGHTS, to);
                 return false;
@@ -1177,21 +1155,24 @@ public final class FlagMachine {
                     popOperand();
                     break;
                 case 31:
-                    jump();
+                    jump(target());
                     break;
                 case 32:
-                    call();
+                    call(target());
                     break;
                 case 33:
                     comeBack();
                     break;
                 case 34:
                     if (core.flags.holds(hand.condition)) {
-                        jump();
+                        jump(target());
                     }
                     break;
                 case 35:
                     core.store(0, 1, core.flags.holds(hand.condition) ? 1 : 0);
+                    break;
+                case 36:
+                    move(valueIfCondition());
                     break;
                 case 43:
                     leaveFrame();
@@ -1200,13 +1181,12 @@ public final class FlagMachine {
                     moveString(op == 50 || op == 52, op >= 52);
                     break;
                 default:
-                    move(op);
+                    move(valueOfMove(op));
                     break;
             }
         }
 
-        private void move(int op) {
-            long v = valueOfMove(op);
+        private void move(long v) {
             if (core.stop == 0) {
                 core.store(0, hand.size, v);
             }
@@ -1222,8 +1202,6 @@ public final class FlagMachine {
                     return signed(core.fetch(1, 1), 1);
                 case 14:
                     return signed(core.fetch(1, 4), 4);
-                case 36:
-                    return valueIfCondition();
                 default:
                     return core.fetch(1, hand.size);
             }
@@ -1266,15 +1244,13 @@ public final class FlagMachine {
             }
         }
 
-        private void jump() {
-            long to = target();
+        private void jump(long to) {
             if (core.stop == 0) {
                 core.next = to;
             }
         }
 
-        private void call() {
-            long to = target();
+        private void call(long to) {
             long top = core.registers[RSP] - 8;
             if (core.stop == 0 && core.save(top, 8, core.next)) {
                 core.registers[RSP] = top;
@@ -1381,7 +1357,7 @@ public final class FlagMachine {
 
         private long takeInput(long address, long atMost) {
             int n = below(atMost, waiting) ? (int) atMost : waiting;
-            int place = core.memory.writablePlace(address, n);
+            int place = core.memory.placeFor(address, n, WRITING);
             if (n > 0 && place == NONE) {
                 return -14;
             }
@@ -1398,7 +1374,7 @@ public final class FlagMachine {
                 return -28;
             }
             int n = (int) count;
-            int place = core.memory.readablePlace(address, n);
+            int place = core.memory.placeFor(address, n, READING);
             if (n > 0 && place == NONE) {
                 return -14;
             }
