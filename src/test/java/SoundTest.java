@@ -1,14 +1,5 @@
 /** Promises 4 to 8: op, operand, memory, number, and which instructions a step takes. */
 public final class SoundTest {
-    // ops | sizes | x | y | third: n nothing, r register, 1 the register 1, m memory, i a number
-    private static final String[] TABLE = {
-        "0-10,48-49|1,4,8|rm|r|n", "0-8|1,4,8|r|m|n", "0-9|1,4,8|rm|i|n",
-        "11|4,8|r|m|n", "12-13|4,8|r|rm|n", "14|8|r|rm|n", "15-22|1,4,8|rm|n|n",
-        "23|4,8|r|rm|ni", "24-28|1,4,8|rm|1i|n", "29|8|rmi|n|n", "30|8|rm|n|n",
-        "31-32|0|rmi|n|n", "33|0|ni|n|n", "34|0|i|n|n", "35|1|rm|n|n", "36|4,8|r|rm|n",
-        "37-38|4,8|n|n|n", "39-43|0|n|n|n", "44-45|4,8|r|rm|n", "46|4,8|r|n|n",
-        "47|4,8|rm|ri|n", "50-53|1,4,8|n|n|n"
-    };
     private static final int[] SIZES = {-1, 0, 1, 2, 3, 4, 5, 7, 8, 9, 16, Integer.MAX_VALUE, Integer.MIN_VALUE};
 
     public static void main(String[] args) {
@@ -22,39 +13,6 @@ public final class SoundTest {
         opClearsOperands();
         refusedStepChangesNothing();
         Due.end();
-    }
-
-    private static boolean inRanges(String ranges, int v) {
-        for (String range : ranges.split(",")) {
-            String[] ends = range.split("-");
-            int from = Integer.parseInt(ends[0]);
-            int to = Integer.parseInt(ends[ends.length - 1]);
-            if (v >= from && v <= to) {
-                return true;
-            }
-        }
-        return false;
-    }
-
-    private static boolean kindIn(String kinds, int kind, int register) {
-        if (kind == 1) {
-            return kinds.indexOf('r') >= 0 || (kinds.indexOf('1') >= 0 && register == 1);
-        }
-        return kinds.indexOf("n.mi".charAt(kind)) >= 0;
-    }
-
-    private static boolean inTable(int op, int size, int[] kinds, int[] registers) {
-        for (String row : TABLE) {
-            String[] parts = row.split("\\|");
-            boolean fits = op >= 0 && size >= 0 && inRanges(parts[0], op) && inRanges(parts[1], size);
-            for (int k = 0; k < 3; k++) {
-                fits = fits && kindIn(parts[2 + k], kinds[k], registers[k]);
-            }
-            if (fits) {
-                return true;
-            }
-        }
-        return false;
     }
 
     private static void everyShape() {
@@ -84,7 +42,7 @@ public final class SoundTest {
         }
         boolean taken = m.step(4) != FlagMachine.NONE;
         String what = "op " + op + " size " + size + " kinds " + kinds[0] + kinds[1] + kinds[2] + " register " + register;
-        Due.equal(what, taken ? 1 : 0, inTable(op, size, kinds, registers) ? 1 : 0);
+        Due.equal(what, taken ? 1 : 0, SoundList.has(op, size, kinds, registers) ? 1 : 0);
     }
 
     private static void conditions() {
@@ -98,7 +56,7 @@ public final class SoundTest {
                     for (int shape = 0; shape < 16; shape++) {
                         int[] kinds = {shape & 3, shape >> 2, 0};
                         int[] registers = {kinds[0] == 1 ? 1 : 0, kinds[1] == 1 ? 1 : 0, 0};
-                        if (kinds[0] != 2 && kinds[1] != 2 && inTable(op, size, kinds, registers)) {
+                        if (kinds[0] != 2 && kinds[1] != 2 && SoundList.has(op, size, kinds, registers)) {
                             found = true;
                             m.set(4, 0x7ffff000L - 4096);
                             m.op(op, size, c);
@@ -160,12 +118,6 @@ public final class SoundTest {
         range(34, 0, 0, Integer.MIN_VALUE, Integer.MAX_VALUE);
     }
 
-    private static boolean memoryIsSound(int base, int index, int scale) {
-        boolean fits = base >= -1 && base <= 16 && index >= -1 && index <= 15 && index != 4;
-        fits = fits && (scale == 1 || scale == 2 || scale == 4 || scale == 8);
-        return fits && !(base == 16 && index != -1) && !(index == -1 && scale != 1);
-    }
-
     private static void memoryFields() {
         int[] far = {Integer.MIN_VALUE, Integer.MAX_VALUE};
         FlagMachine m = new FlagMachine();
@@ -189,7 +141,7 @@ public final class SoundTest {
         m.operand(0, 1, 1);
         m.operand(1, 2, 0);
         boolean taken = m.step(4) != FlagMachine.NONE;
-        Due.equal("memory " + base + " " + index + " " + scale, taken ? 1 : 0, memoryIsSound(base, index, scale) ? 1 : 0);
+        Due.equal("memory " + base + " " + index + " " + scale, taken ? 1 : 0, SoundList.memoryFits(base, index, scale) ? 1 : 0);
     }
 
     private static void fieldsThatDoNotMatter() {

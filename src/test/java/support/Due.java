@@ -1,9 +1,20 @@
+import java.util.HashSet;
+import java.util.Set;
+
 /** Compares answers with those that are due, and ends a test's main method. */
 public final class Due {
     private static int checked = 0;
     private static int wrong = 0;
+    private static final Set<String> SENTENCES = new HashSet<>();
+    private static String about = "";
 
     private Due() {
+    }
+
+    /** The sentence of the document that the answers from here on are due by. */
+    public static void about(String sentence) {
+        about = "[" + sentence + "] ";
+        SENTENCES.add(sentence);
     }
 
     public static void equal(String what, long got, long want) {
@@ -12,7 +23,7 @@ public final class Due {
             wrong++;
             // A broken rule may fail in thousands of rows: the first ones tell enough.
             if (wrong <= 20) {
-                System.out.println(what + " answered " + got + ", due is " + want);
+                System.out.println(about + what + " answered " + got + ", due is " + want);
             }
         }
     }
@@ -26,7 +37,8 @@ public final class Due {
     }
 
     public static void end() {
-        System.out.println(checked + " answers looked at, " + wrong + " not as due");
+        String told = SENTENCES.isEmpty() ? "" : SENTENCES.size() + " sentences, ";
+        System.out.println(told + checked + " answers looked at, " + wrong + " not as due");
         if (wrong != 0 || checked == 0) {
             System.exit(1);
         }

@@ -48,6 +48,31 @@ public final class Rig {
         return this;
     }
 
+    /** Operands by letters: n none, r register 3, 5 or 6, 1 register 1, m memory, i number. */
+    public Rig kinds(String letters) {
+        int[] usual = {3, 5, 6};
+        for (int k = 0; k < letters.length(); k++) {
+            switch (letters.charAt(k)) {
+                case 'r':
+                    reg(k, usual[k]);
+                    break;
+                case '1':
+                    reg(k, 1);
+                    break;
+                case 'm':
+                    mem(k);
+                    break;
+                case 'i':
+                    Due.yes("operand " + k + " number", m.operand(k, NUMBER, 0));
+                    break;
+                default:
+                    Due.yes("operand " + k + " none", m.operand(k, NOTHING, 0));
+                    break;
+            }
+        }
+        return this;
+    }
+
     public Rig put(int register, long v) {
         Due.yes("set " + register, m.set(register, v));
         return this;
@@ -87,6 +112,25 @@ public final class Rig {
         put(14, a).put(15, b).tell(0, 1).reg(0, 14).reg(1, 15).step("flags", 0);
         put(14, r14).put(15, r15).put(16, ip);
         return m.register(17);
+    }
+
+    /** Flags become these, one of all 32 sets, also those that no sum has; all else but steps stays. */
+    public void setFlags(long want) {
+        long r14 = m.register(14);
+        long r15 = m.register(15);
+        long ip = m.register(16);
+        int[][] sums = {{0, 1}, {0x80, 0}, {0, 3}, {0x80, 1}, {0x80, 0x81}, {0x7f, 1}, {0x80, 0x80}, {0x7f, 2}};
+        int[] sum = sums[((want & S) != 0 ? 1 : 0) + ((want & P) != 0 ? 2 : 0) + ((want & O) != 0 ? 4 : 0)];
+        flagsOfSum(sum[0], sum[1]);
+        put(14, 0).put(15, (want & Z) != 0 ? 0 : 1).tell(44, 8).reg(0, 14).reg(1, 15).step("Z", 0);
+        put(14, want & C).tell(47, 8).reg(0, 14).num(1, 0).step("C", 0);
+        put(14, r14).put(15, r15).put(16, ip);
+        Due.equal("flags as wanted", m.register(17), 2 | want);
+    }
+
+    /** The flags' bits of a set's number 0 .. 31. */
+    public static long flagsOf(int set) {
+        return (set & 1) + (set & 2) * 2 + (set & 12) * 16 + (set & 16) * 128;
     }
 
     /** Different sets of flags, one for each of 0 .. 4: none, most of them, S with O, C with P, S alone. */
