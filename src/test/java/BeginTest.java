@@ -14,21 +14,10 @@ public final class BeginTest {
         Due.end();
     }
 
-    private static void freshState(String what, FlagMachine m, long heap) {
-        for (int k = 0; k < 16; k++) {
-            Due.equal(what + ": register " + k, m.register(k), k == 4 ? 0x7ffff000L : 0);
-        }
-        Due.equal(what + ": IP", m.register(16), 0x400000L);
-        Due.equal(what + ": flags", m.register(17), 2);
-        Due.equal(what + ": BREAK", m.register(18), heap);
-        Due.equal(what + ": steps", m.register(19), 0);
-        Due.equal(what + ": value", m.value(), 0);
-        Due.equal(what + ": output", m.output(-1), 0);
-    }
-
     private static void newObject() {
-        FlagMachine m = new FlagMachine();
-        freshState("new", m, 0x400000L);
+        Rig rig = new Rig();
+        FlagMachine m = rig.m;
+        rig.fresh("new", 0x400000L);
         Due.equal("new: no image", m.peek(IMAGE), -1);
         Due.equal("new: the stack's last byte", m.peek(0x7fffefffL), 0);
         Due.equal("new: op 39", m.step(1), 0);
@@ -86,7 +75,7 @@ public final class BeginTest {
         rig.put(0, 60).put(7, 3).tell(42, 0).step("end", 1);
 
         Due.yes("begin again", m.begin(8192, 0, 0, 0, 0, 8192));
-        freshState("anew", m, IMAGE + 8192);
+        rig.fresh("anew", IMAGE + 8192);
         Due.equal("the image as filled", rig.word(IMAGE, 8), 0x1122334455667788L);
         Due.equal("the stack is 0", rig.word(Rig.STACK_END - 300, 8), 0);
         Due.equal("no byte of OUTPUT", m.output(0), -1);

@@ -2,7 +2,6 @@
 public final class EdgesOfCallsTest {
     private static final long IMAGE = Rig.IMAGE;
     private static final long TOP = Rig.STACK_END;
-    private static final long ALL = Rig.C | Rig.P | Rig.Z | Rig.S | Rig.O;
     private static final long WORD = 0x8877665544332211L;
     private static final int LEAST = Integer.MIN_VALUE;
     private static final int MOST = Integer.MAX_VALUE;
@@ -32,23 +31,11 @@ public final class EdgesOfCallsTest {
         Due.end();
     }
 
-    private static void fresh(String what, FlagMachine m, long heap) {
-        for (int k = 0; k < 16; k++) {
-            Due.equal(what + ": register " + k, m.register(k), k == 4 ? 0x7ffff000L : 0);
-        }
-        Due.equal(what + ": IP", m.register(16), 0x400000L);
-        Due.equal(what + ": flags", m.register(17), 2);
-        Due.equal(what + ": BREAK", m.register(18), heap);
-        Due.equal(what + ": steps", m.register(19), 0);
-        Due.equal(what + ": value", m.value(), 0);
-        Due.equal(what + ": OUTPUT", m.output(-1), 0);
-        Due.equal(what + ": OUTPUT", m.output(0), -1);
-    }
-
     private static void newObject() {
         Due.about("1: As after begin(0, 0, 0, 0, 0, 0)");
-        FlagMachine m = new FlagMachine();
-        fresh("new", m, 0x400000L);
+        Rig rig = new Rig();
+        FlagMachine m = rig.m;
+        rig.fresh("new", 0x400000L);
         Due.equal("no image", m.peek(IMAGE), -1);
         Due.equal("an empty stack", m.peek(TOP - 1), 0);
         Due.equal("an empty stack", m.peek(TOP - 65536), 0);
@@ -115,7 +102,7 @@ public final class EdgesOfCallsTest {
         rig.m.fill(1024, WORD);
         Due.yes("begin", rig.m.begin(4096, 16, 16, 32, 64, 4096));
         rig.m.fill(0, -1L);
-        rig.setFlags(ALL);
+        rig.setFlags(Edge.ALL);
         rig.put(0, 12).put(7, IMAGE + 4096 + 100).tell(42, 0).step("break", 0);
         rig.put(0, 1).put(6, IMAGE).put(2, 5).step("write", 0);
         Due.yes("input", rig.m.input(0x414243, 3));
@@ -163,7 +150,7 @@ public final class EdgesOfCallsTest {
         }
         Rig rig = busy();
         Due.yes("begin", rig.m.begin(4096, 16, 16, 32, 64, 4096));
-        fresh("anew", rig.m, IMAGE + 4096);
+        rig.fresh("anew", IMAGE + 4096);
         Due.equal("no HEAP", rig.m.peek(IMAGE + 4096), -1);
         Due.equal("the image as it was filled", rig.word(IMAGE, 8), -1L);
         Due.equal("the image as it was filled", rig.m.peek(IMAGE + 64), 0);
@@ -176,7 +163,7 @@ public final class EdgesOfCallsTest {
         Due.equal("the HEAP is 0", rig.m.peek(IMAGE + 4096), 0);
         rig.put(0, 60).step("end", 1);
         Due.yes("begin", rig.m.begin(0, 0, 0, 0, 0, 0));
-        fresh("behind an end", rig.m, IMAGE);
+        rig.fresh("behind an end", IMAGE);
         rig.tell(39, 0).step("it goes on", 0);
     }
 

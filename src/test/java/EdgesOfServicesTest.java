@@ -33,12 +33,6 @@ public final class EdgesOfServicesTest {
         return rig;
     }
 
-    private static void call(Rig rig, String what, long rax, long rdi, long rsi, long rdx, long want) {
-        rig.put(0, rax).put(7, rdi).put(6, rsi).put(2, rdx).tell(42, 0).step(what, 0);
-        rig.register(what, 0, want);
-        Due.equal(what + ": value", rig.m.value(), 0);
-    }
-
     private static void nextAddressAndFlags() {
         Due.about("42 syscall: rcx becomes the next address");
         for (long ip : new long[] {0, IMAGE, -3, -2, Long.MAX_VALUE, Long.MIN_VALUE}) {
@@ -67,7 +61,7 @@ public final class EdgesOfServicesTest {
             Long.MIN_VALUE, Long.MIN_VALUE + 1, Long.MAX_VALUE, -38, 256 + 60, 65536 + 12}) {
             Rig rig = rig();
             Due.yes("input", rig.m.input(7, 1));
-            call(rig, "rax " + rax, rax, HEAP + 8, DATA, 1, -38);
+            rig.syscall("rax " + rax, rax, HEAP + 8, DATA, 1, -38);
             rig.register("BREAK", 18, HEAP);
             Due.equal("OUTPUT", rig.m.output(-1), 0);
             Due.equal("memory", rig.m.peek(DATA), 0);
@@ -78,15 +72,15 @@ public final class EdgesOfServicesTest {
         Due.about("0: the first bytes of INPUT: none where it is empty");
         for (long rsi : new long[] {DATA, 0, IMAGE, TOP, -1, Long.MIN_VALUE}) {
             for (long rdx : new long[] {0, 1, 8, 65536, -1, Long.MIN_VALUE}) {
-                call(rig(), "rsi " + rsi + " rdx " + rdx, 0, 0, rsi, rdx, 0);
+                rig().syscall("rsi " + rsi + " rdx " + rdx, 0, 0, rsi, rdx, 0);
             }
         }
         Rig rig = rig();
         Due.yes("input", rig.m.input(0x0102, 2));
-        call(rig, "all", 0, 0, DATA, 2, 2);
-        call(rig, "empty again", 0, 0, 0, 2, 0);
+        rig.syscall("all", 0, 0, DATA, 2, 2);
+        rig.syscall("empty again", 0, 0, 0, 2, 0);
         Due.no("a refused input", rig.m.input(5, 0));
-        call(rig, "still empty", 0, 0, 0, 2, 0);
+        rig.syscall("still empty", 0, 0, 0, 2, 0);
     }
 
     private static void atMostRdx() {
@@ -96,18 +90,18 @@ public final class EdgesOfServicesTest {
         for (long[] row : rows) {
             Rig rig = rig();
             Due.yes("input", rig.m.input(0x1112131415L, 5));
-            call(rig, "rdx " + row[0], 0, 0, DATA, row[0], row[1]);
+            rig.syscall("rdx " + row[0], 0, 0, DATA, row[0], row[1]);
             for (int i = 0; i < 6; i++) {
                 Due.equal("byte " + i + " by rdx " + row[0], rig.m.peek(DATA + i), i < row[1] ? 0x11 + i : 0);
             }
-            call(rig, "the rest", 0, 0, DATA, 9, 5 - row[1]);
+            rig.syscall("the rest", 0, 0, DATA, 9, 5 - row[1]);
             rig.register("rdx stays", 2, 9);
             rig.register("rsi stays", 6, DATA);
         }
-        call(rig(), "rdx 0 asks for no right", 0, 0, 0, 0, 0);
+        rig().syscall("rdx 0 asks for no right", 0, 0, 0, 0, 0);
         Rig rig = rig();
         Due.yes("input", rig.m.input(1, 1));
-        call(rig, "rdx 0 asks for no right", 0, 0, 0, 0, 0);
+        rig.syscall("rdx 0 asks for no right", 0, 0, 0, 0, 0);
     }
 
     private static void takenOff() {
@@ -115,13 +109,13 @@ public final class EdgesOfServicesTest {
         Rig rig = rig();
         Due.yes("input", rig.m.input(0xa1a2a3a4a5a6a7a8L, 8));
         for (int i = 1; i <= 8; i++) {
-            call(rig, "one by one", 0, 0, DATA, 1, 1);
+            rig.syscall("one by one", 0, 0, DATA, 1, 1);
             Due.equal("byte " + i, rig.m.peek(DATA), 0xa0 + i);
         }
         for (int n = 1; n <= 8; n++) {
             Due.yes("input", rig.m.input(0xb1b2b3b4b5b6b7b8L, n));
         }
-        call(rig, "all", 0, 0, TOP - 36, 99, 36);
+        rig.syscall("all", 0, 0, TOP - 36, 99, 36);
         int at = 0;
         for (int n = 1; n <= 8; n++) {
             for (int i = 8 - n; i < 8; i++) {
@@ -137,8 +131,8 @@ public final class EdgesOfServicesTest {
         for (long rsi : wrong) {
             Rig rig = rig();
             Due.yes("input", rig.m.input(0x11121314, 4));
-            call(rig, "rsi " + rsi, 0, 0, rsi, 4, -14);
-            call(rig, "nothing was taken off", 0, 0, DATA + 64, 9, 4);
+            rig.syscall("rsi " + rsi, 0, 0, rsi, 4, -14);
+            rig.syscall("nothing was taken off", 0, 0, DATA + 64, 9, 4);
             Due.equal("nothing was taken off", rig.word(DATA + 64, 4), 0x14131211);
             for (long a = rsi - 4; a < rsi + 8; a++) {
                 Due.yes("no byte went to " + a, a < DATA || rig.m.peek(a) <= 0);
@@ -148,25 +142,25 @@ public final class EdgesOfServicesTest {
         for (long rsi : right) {
             Rig rig = rig();
             Due.yes("input", rig.m.input(0x11121314, 4));
-            call(rig, "rsi " + rsi, 0, 0, rsi, 4, 4);
+            rig.syscall("rsi " + rsi, 0, 0, rsi, 4, 4);
         }
         // Only as many bytes as INPUT has must be writable.
         Rig rig = rig();
         Due.yes("input", rig.m.input(0x11, 1));
-        call(rig, "one byte, rdx 100", 0, 0, HEAP - 1, 100, 1);
+        rig.syscall("one byte, rdx 100", 0, 0, HEAP - 1, 100, 1);
         rig = rig();
         Due.yes("input", rig.m.input(0x1122, 2));
-        call(rig, "two bytes, rdx 100", 0, 0, HEAP - 1, 100, -14);
-        call(rig, "two bytes, rdx 1", 0, 0, HEAP - 1, 1, 1);
+        rig.syscall("two bytes, rdx 100", 0, 0, HEAP - 1, 100, -14);
+        rig.syscall("two bytes, rdx 1", 0, 0, HEAP - 1, 1, 1);
     }
 
     private static void outputGrows() {
         Due.about("1: rdx bytes at rsi and on are appended to OUTPUT; rax is how many");
         Rig rig = rig();
-        call(rig, "none", 1, 0, 0, 0, 0);
+        rig.syscall("none", 1, 0, 0, 0, 0);
         Due.equal("none", rig.m.output(-1), 0);
-        call(rig, "one", 1, 0, IMAGE + 31, 1, 1);
-        call(rig, "RODATA", 1, 0, IMAGE + 64, 64, 64);
+        rig.syscall("one", 1, 0, IMAGE + 31, 1, 1);
+        rig.syscall("RODATA", 1, 0, IMAGE + 64, 64, 64);
         Due.equal("how many", rig.m.output(-1), 65);
         Due.equal("the first", rig.m.output(0), rig.m.peek(IMAGE + 31));
         for (int i = 0; i < 64; i++) {
@@ -174,7 +168,7 @@ public final class EdgesOfServicesTest {
         }
         rig.register("rsi stays", 6, IMAGE + 64);
         rig.register("rdx stays", 2, 64);
-        call(rig, "none more", 1, 0, 0, 0, 0);
+        rig.syscall("none more", 1, 0, 0, 0, 0);
         Due.equal("how many", rig.m.output(-1), 65);
     }
 
@@ -184,44 +178,44 @@ public final class EdgesOfServicesTest {
             Rig.STACK - 1, -1, -4, Long.MAX_VALUE, Long.MIN_VALUE};
         for (long rsi : wrong) {
             Rig rig = rig();
-            call(rig, "rsi " + rsi, 1, 0, rsi, 4, -14);
+            rig.syscall("rsi " + rsi, 1, 0, rsi, 4, -14);
             Due.equal("OUTPUT is empty", rig.m.output(-1), 0);
             Due.equal("OUTPUT is empty", rig.m.output(0), -1);
         }
         for (long rsi : new long[] {IMAGE, IMAGE + 28, IMAGE + 64, IMAGE + 124, DATA, HEAP - 4, TOP - 4, Rig.STACK}) {
-            call(rig(), "rsi " + rsi, 1, 0, rsi, 4, 4);
+            rig().syscall("rsi " + rsi, 1, 0, rsi, 4, 4);
         }
     }
 
     private static void outputIsFull() {
         Due.about("by 1 ahead of that, -28 if OUTPUT would have more than 65536 bytes");
         for (long rdx : new long[] {65537, 65538, 131072, 1L << 31, 1L << 32, Long.MAX_VALUE, Long.MIN_VALUE, -1}) {
-            call(rig(), "rdx " + rdx, 1, 0, Rig.STACK, rdx, -28);
-            call(rig(), "not readable, rdx " + rdx, 1, 0, 0, rdx, -28);
+            rig().syscall("rdx " + rdx, 1, 0, Rig.STACK, rdx, -28);
+            rig().syscall("not readable, rdx " + rdx, 1, 0, 0, rdx, -28);
         }
         Rig rig = rig();
         rig.poke(TOP - 1, 1, 77);
         rig.poke(Rig.STACK, 1, 78);
-        call(rig, "not readable", 1, 0, TOP - 65535, 65536, -14);
-        call(rig, "all", 1, 0, Rig.STACK, 65536, 65536);
+        rig.syscall("not readable", 1, 0, TOP - 65535, 65536, -14);
+        rig.syscall("all", 1, 0, Rig.STACK, 65536, 65536);
         Due.equal("how many", rig.m.output(-1), 65536);
         Due.equal("the first", rig.m.output(0), 78);
         Due.equal("the last", rig.m.output(65535), 77);
         Due.equal("behind it", rig.m.output(65536), -1);
-        call(rig, "one more", 1, 0, Rig.STACK, 1, -28);
-        call(rig, "one more, not readable", 1, 0, 0, 1, -28);
-        call(rig, "none more", 1, 0, 0, 0, 0);
+        rig.syscall("one more", 1, 0, Rig.STACK, 1, -28);
+        rig.syscall("one more, not readable", 1, 0, 0, 1, -28);
+        rig.syscall("none more", 1, 0, 0, 0, 0);
         Due.equal("how many", rig.m.output(-1), 65536);
         rig = rig();
-        call(rig, "all but 5", 1, 0, Rig.STACK, 65531, 65531);
-        call(rig, "6 too many", 1, 0, Rig.STACK, 6, -28);
-        call(rig, "6 not readable", 1, 0, 0, 6, -28);
-        call(rig, "5 not readable", 1, 0, 0, 5, -14);
-        call(rig, "far too many", 1, 0, Rig.STACK, -65531, -28);
-        call(rig, "5", 1, 0, IMAGE, 5, 5);
+        rig.syscall("all but 5", 1, 0, Rig.STACK, 65531, 65531);
+        rig.syscall("6 too many", 1, 0, Rig.STACK, 6, -28);
+        rig.syscall("6 not readable", 1, 0, 0, 6, -28);
+        rig.syscall("5 not readable", 1, 0, 0, 5, -14);
+        rig.syscall("far too many", 1, 0, Rig.STACK, -65531, -28);
+        rig.syscall("5", 1, 0, IMAGE, 5, 5);
         Due.equal("how many", rig.m.output(-1), 65536);
         Due.equal("the last", rig.m.output(65535), 5);
-        call(rig, "1 more", 1, 0, Rig.STACK, 1, -28);
+        rig.syscall("1 more", 1, 0, Rig.STACK, 1, -28);
     }
 
     private static void raxAloneChanges() {
@@ -251,20 +245,20 @@ public final class EdgesOfServicesTest {
         long[] right = {HEAP, HEAP + 1, HEAP + 4095, HEAP + 65535, HEAP + 65536};
         for (long rdi : wrong) {
             Rig rig = rig();
-            call(rig, "rdi " + rdi, 12, rdi, 0, 0, HEAP);
+            rig.syscall("rdi " + rdi, 12, rdi, 0, 0, HEAP);
             rig.register("BREAK", 18, HEAP);
-            call(rig, "break", 12, HEAP + 100, 0, 0, HEAP + 100);
-            call(rig, "rdi " + rdi, 12, rdi, 0, 0, HEAP + 100);
+            rig.syscall("break", 12, HEAP + 100, 0, 0, HEAP + 100);
+            rig.syscall("rdi " + rdi, 12, rdi, 0, 0, HEAP + 100);
             rig.register("BREAK", 18, HEAP + 100);
             Due.equal("the last byte is there", rig.m.peek(HEAP + 99), 0);
         }
         for (long rdi : right) {
             Rig rig = rig();
-            call(rig, "rdi " + rdi, 12, rdi, 0, 0, rdi);
+            rig.syscall("rdi " + rdi, 12, rdi, 0, 0, rdi);
             rig.register("BREAK", 18, rdi);
             Due.equal("behind it", rig.m.peek(rdi), -1);
             Due.equal("the last byte", rig.m.poke(rdi - 1, 9) ? 1 : 0, 1);
-            call(rig, "back to the beginning", 12, HEAP, 0, 0, HEAP);
+            rig.syscall("back to the beginning", 12, HEAP, 0, 0, HEAP);
             Due.equal("no byte is left", rig.m.peek(HEAP), -1);
         }
     }
@@ -274,8 +268,8 @@ public final class EdgesOfServicesTest {
         for (int keep : new int[] {0, 1, 7, 255, 256, 257, 1000, 1001, 65535}) {
             for (int all : new int[] {keep, keep + 1, keep + 2, 65536}) {
                 Rig rig = rig();
-                call(rig, "forth", 12, HEAP + 65536, 0, 0, HEAP + 65536);
-                call(rig, "some way", 12, HEAP + Math.min(all, 65536), 0, 0, HEAP + Math.min(all, 65536));
+                rig.syscall("forth", 12, HEAP + 65536, 0, 0, HEAP + 65536);
+                rig.syscall("some way", 12, HEAP + Math.min(all, 65536), 0, 0, HEAP + Math.min(all, 65536));
                 long end = rig.m.register(18);
                 for (long a = Math.max(HEAP, end - 300); a < end; a++) {
                     Due.yes("poke", rig.m.poke(a, 7));
@@ -283,9 +277,9 @@ public final class EdgesOfServicesTest {
                 for (long a = HEAP + Math.max(0, keep - 300); a < Math.min(end, HEAP + keep + 300); a++) {
                     Due.yes("poke", rig.m.poke(a, 7));
                 }
-                call(rig, "back", 12, HEAP + keep, 0, 0, HEAP + keep);
+                rig.syscall("back", 12, HEAP + keep, 0, 0, HEAP + keep);
                 Due.equal("gone", rig.m.peek(HEAP + keep), -1);
-                call(rig, "forth again", 12, end, 0, 0, end);
+                rig.syscall("forth again", 12, end, 0, 0, end);
                 for (long a = HEAP + Math.max(0, keep - 300); a < end; a++) {
                     Due.equal("keep " + keep + " of " + all + ", byte " + (a - HEAP), rig.m.peek(a), a < HEAP + keep ? 7 : 0);
                 }
@@ -302,7 +296,7 @@ public final class EdgesOfServicesTest {
             Due.yes("poke", rig.m.poke(a, 9));
         }
         for (long rdi : new long[] {heap + 65536, heap, heap + 1, heap + 65536, heap + 65535, heap}) {
-            call(rig, "break", 12, rdi, 0, 0, rdi);
+            rig.syscall("break", 12, rdi, 0, 0, rdi);
             for (long a : new long[] {IMAGE, heap - 1, Rig.STACK, TOP - 1}) {
                 Due.equal("byte at " + a, rig.m.peek(a), 9);
             }

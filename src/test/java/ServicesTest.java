@@ -26,12 +26,6 @@ public final class ServicesTest {
         return rig;
     }
 
-    private static void call(Rig rig, String what, long rax, long rdi, long rsi, long rdx, long want) {
-        rig.put(0, rax).put(7, rdi).put(6, rsi).put(2, rdx).tell(42, 0).step(what, 0);
-        rig.register(what, 0, want);
-        Due.equal(what + ": value", rig.m.value(), 0);
-    }
-
     private static void registersOfASyscall() {
         for (int which = 0; which < 5; which++) {
             Rig rig = rig();
@@ -51,7 +45,7 @@ public final class ServicesTest {
         }
         Rig rig = rig();
         for (long rax : new long[] {-1, 2, 11, 13, 59, 61, 1L << 32, 60 + (1L << 32), Long.MIN_VALUE}) {
-            call(rig, "unknown " + rax, rax, 0, 0, 0, -38);
+            rig.syscall("unknown " + rax, rax, 0, 0, 0, -38);
         }
     }
 
@@ -78,22 +72,22 @@ public final class ServicesTest {
         Due.yes("input", rig.m.input(0x4142434445464748L, 8));
         Due.yes("input", rig.m.input(0x1111222233335152L, 2));
         Due.no("refused", rig.m.input(0x99, 0));
-        call(rig, "read 3", 0, 99, DATA, 3, 3);
+        rig.syscall("read 3", 0, 99, DATA, 3, 3);
         Due.equal("read 3", rig.word(DATA, 4), 0x434241);
         rig.register("rsi stays", 6, DATA);
         rig.register("rdx stays", 2, 3);
-        call(rig, "read 0", 0, 0, 1, 0, 0);
-        call(rig, "read all", 0, 0, DATA + 8, -1, 7);
+        rig.syscall("read 0", 0, 0, 1, 0, 0);
+        rig.syscall("read all", 0, 0, DATA + 8, -1, 7);
         Due.equal("read all", rig.word(DATA + 8, 8), 0x0052514847464544L);
-        call(rig, "nothing left", 0, 0, 1, 100, 0);
+        rig.syscall("nothing left", 0, 0, 1, 100, 0);
         Due.yes("input", rig.m.input(0xffL, 1));
-        call(rig, "to the stack's last byte", 0, 0, TOP - 1, 100, 1);
+        rig.syscall("to the stack's last byte", 0, 0, TOP - 1, 100, 1);
         Due.equal("to the stack's last byte", rig.m.peek(TOP - 1), 255);
         // INPUT may take more in all than it holds at once.
         for (int i = 0; i < 9000; i++) {
             rig.m.input(i, 8);
             if (i % 100 == 99) {
-                call(rig, "read 800", 0, 0, DATA, 800, 800);
+                rig.syscall("read 800", 0, 0, DATA, 800, 800);
                 Due.equal("the last of 800", rig.m.peek(DATA + 799), i & 255);
                 Due.equal("the last but one", rig.m.peek(DATA + 798), i >> 8);
             }
@@ -116,7 +110,7 @@ public final class ServicesTest {
             before[19] += 1;
             rig.same("read to " + rsi, before);
         }
-        call(rig, "all is still there", 0, 0, 0x400ff8L, 1000, 8);
+        rig.syscall("all is still there", 0, 0, 0x400ff8L, 1000, 8);
         Due.equal("all is still there", rig.word(0x400ff8L, 8), 0x4847464544434241L);
     }
 
@@ -124,10 +118,10 @@ public final class ServicesTest {
         Rig rig = rig();
         Due.equal("none", rig.m.output(-1), 0);
         Due.equal("none", rig.m.output(0), -1);
-        call(rig, "write 3", 1, 99, 0x400001L, 3, 3);
-        call(rig, "write 0", 1, 1, 5, 0, 0);
+        rig.syscall("write 3", 1, 99, 0x400001L, 3, 3);
+        rig.syscall("write 0", 1, 1, 5, 0, 0);
         rig.poke(DATA, 8, 0x00ff80);
-        call(rig, "write 5", 1, 2, DATA - 2, 5, 5);
+        rig.syscall("write 5", 1, 2, DATA - 2, 5, 5);
         int[] want = {0x42, 0x43, 0x44, 0x7f, 0x80, 0x80, 0xff, 0};
         Due.equal("how many", rig.m.output(-1), 8);
         for (int i = 0; i < want.length; i++) {
@@ -140,7 +134,7 @@ public final class ServicesTest {
         Due.equal("what is out stays", rig.m.output(5), 0x80);
         // Bytes of an earlier OUTPUT must not come back where only zeros are written.
         Due.yes("begin", rig.m.begin(4096, 0, 0, 64, 64, 4096));
-        call(rig, "write zeros", 1, 1, DATA + 512, 20, 20);
+        rig.syscall("write zeros", 1, 1, DATA + 512, 20, 20);
         for (int i = 0; i < 20; i++) {
             Due.equal("zero " + i, rig.m.output(i), 0);
         }
@@ -170,63 +164,63 @@ public final class ServicesTest {
             m.fill(i, i * 0x0102030405060709L);
         }
         Due.yes("begin", m.begin(8192, 1000, 1000, 3001, 3001, 8192));
-        call(rig, "break", 12, 0x402000L + 5000, 0, 0, 0x402000L + 5000);
+        rig.syscall("break", 12, 0x402000L + 5000, 0, 0, 0x402000L + 5000);
         for (int i = 0; i < 5000; i += 7) {
             m.poke(0x402000L + i, i);
         }
-        call(rig, "write a little", 1, 1, 0x400003L, 13, 13);
-        call(rig, "write across", 1, 1, 0x400005L, 13000, 13000);
+        rig.syscall("write a little", 1, 1, 0x400003L, 13, 13);
+        rig.syscall("write across", 1, 1, 0x400005L, 13000, 13000);
         for (int i = 0; i < 13000; i++) {
             Due.equal("byte " + i, m.output(13 + i), m.peek(0x400005L + i));
         }
-        call(rig, "one too many", 1, 1, 0x400005L, 8192 + 5000 - 5 + 1, -14);
+        rig.syscall("one too many", 1, 1, 0x400005L, 8192 + 5000 - 5 + 1, -14);
         Due.yes("begin with a gap", m.begin(8192, 1000, 1001, 3001, 3001, 8192));
-        call(rig, "across the gap", 1, 1, 0x400000L + 999, 2, -14);
-        call(rig, "ahead of the gap", 1, 1, 0x400000L + 999, 1, 1);
+        rig.syscall("across the gap", 1, 1, 0x400000L + 999, 2, -14);
+        rig.syscall("ahead of the gap", 1, 1, 0x400000L + 999, 1, 1);
     }
 
     private static void outputIsFull() {
         Rig rig = new Rig();
         rig.m.fill(65530, -1L);
         Due.yes("begin", rig.m.begin(131072, 131072, 131072, 131072, 131072, 131072));
-        call(rig, "too many at once", 1, 1, 0x400000L, 65537, -28);
-        call(rig, "without a sign", 1, 1, 0x400000L, -1, -28);
-        call(rig, "ahead of -14", 1, 1, 0, 65537, -28);
-        call(rig, "all at once", 1, 1, 0x400000L, 65536, 65536);
+        rig.syscall("too many at once", 1, 1, 0x400000L, 65537, -28);
+        rig.syscall("without a sign", 1, 1, 0x400000L, -1, -28);
+        rig.syscall("ahead of -14", 1, 1, 0, 65537, -28);
+        rig.syscall("all at once", 1, 1, 0x400000L, 65536, 65536);
         Due.equal("how many", rig.m.output(-1), 65536);
         Due.equal("the last", rig.m.output(65535), 255);
         Due.equal("ahead of it", rig.m.output(65529), 0);
         Due.equal("behind it", rig.m.output(65536), -1);
-        call(rig, "one more", 1, 1, 0x400000L, 1, -28);
-        call(rig, "one more, not readable", 1, 1, 0, 1, -28);
-        call(rig, "none more", 1, 1, 0, 0, 0);
+        rig.syscall("one more", 1, 1, 0x400000L, 1, -28);
+        rig.syscall("one more, not readable", 1, 1, 0, 1, -28);
+        rig.syscall("none more", 1, 1, 0, 0, 0);
     }
 
     private static void breaks() {
         Rig rig = rig();
         long heap = 0x401000L;
-        call(rig, "ask", 12, 0, 0, 0, heap);
-        call(rig, "below", 12, heap - 1, 0, 0, heap);
-        call(rig, "too far", 12, heap + 65537, 0, 0, heap);
-        call(rig, "far below 0", 12, Long.MIN_VALUE, 0, 0, heap);
-        call(rig, "far above", 12, Long.MAX_VALUE, 0, 0, heap);
-        call(rig, "low half alone", 12, heap + 10 + (1L << 32), 0, 0, heap);
-        call(rig, "all", 12, heap + 65536, 0, 0, heap + 65536);
+        rig.syscall("ask", 12, 0, 0, 0, heap);
+        rig.syscall("below", 12, heap - 1, 0, 0, heap);
+        rig.syscall("too far", 12, heap + 65537, 0, 0, heap);
+        rig.syscall("far below 0", 12, Long.MIN_VALUE, 0, 0, heap);
+        rig.syscall("far above", 12, Long.MAX_VALUE, 0, 0, heap);
+        rig.syscall("low half alone", 12, heap + 10 + (1L << 32), 0, 0, heap);
+        rig.syscall("all", 12, heap + 65536, 0, 0, heap + 65536);
         rig.register("BREAK", 18, heap + 65536);
         for (long a = heap; a < heap + 65536; a += 97) {
             Due.yes("poke", rig.m.poke(a, 7));
         }
-        call(rig, "back", 12, heap + 1000, 0, 0, heap + 1000);
+        rig.syscall("back", 12, heap + 1000, 0, 0, heap + 1000);
         Due.equal("kept", rig.m.peek(heap + 970), 7);
         Due.equal("gone", rig.m.peek(heap + 1000), -1);
         Due.no("gone", rig.m.poke(heap + 1000, 1));
-        call(rig, "refused", 12, heap - 1, 0, 0, heap + 1000);
-        call(rig, "forth", 12, heap + 65536, 0, 0, heap + 65536);
+        rig.syscall("refused", 12, heap - 1, 0, 0, heap + 1000);
+        rig.syscall("forth", 12, heap + 65536, 0, 0, heap + 65536);
         Due.equal("kept", rig.m.peek(heap + 970), 7);
         for (long a = heap + 1000; a < heap + 65536; a++) {
             Due.equal("0 when it comes back", rig.m.peek(a), 0);
         }
-        call(rig, "to the beginning", 12, heap, 0, 0, heap);
+        rig.syscall("to the beginning", 12, heap, 0, 0, heap);
         Due.equal("no heap", rig.m.peek(heap), -1);
     }
 

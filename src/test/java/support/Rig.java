@@ -139,6 +139,27 @@ public final class Rig {
         return flagsOfSum(sums[which][0], sums[which][1]);
     }
 
+    /** A syscall that does not end the program, and what rax is behind it. */
+    public void syscall(String what, long rax, long rdi, long rsi, long rdx, long want) {
+        put(0, rax).put(7, rdi).put(6, rsi).put(2, rdx).tell(42, 0).step(what, 0);
+        register(what, 0, want);
+        Due.equal(what + ": value", m.value(), 0);
+    }
+
+    /** All is as behind begin(), with the HEAP at an address. */
+    public void fresh(String what, long heap) {
+        for (int k = 0; k < 16; k++) {
+            register(what, k, k == 4 ? STACK_END : 0);
+        }
+        register(what + ": IP", 16, IMAGE);
+        flags(what, 0);
+        register(what + ": BREAK", 18, heap);
+        register(what + ": steps", 19, 0);
+        Due.equal(what + ": value", m.value(), 0);
+        Due.equal(what + ": OUTPUT", m.output(-1), 0);
+        Due.equal(what + ": OUTPUT", m.output(0), -1);
+    }
+
     /** All that the face shows but the value of the latest stop, one number for each part. */
     public long[] picture() {
         long[] all = new long[24];
